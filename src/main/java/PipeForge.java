@@ -238,14 +238,15 @@ public final class PipeForge {
     /** One instruction, and what its kind means. */
     private static final class Instruction {
         private final int kind;
-        private final int d;
+        /** The register that it commits, or NOWHERE: known once, since each thread behind asks for it. */
+        private final int target;
         private final int a;
         private final int b;
         private final int i;
 
         Instruction(int kind, int d, int a, int b, int i) {
             this.kind = kind;
-            this.d = d;
+            this.target = kind >= NUMBER && kind <= LOAD ? d : NOWHERE;
             this.a = a;
             this.b = b;
             this.i = i;
@@ -276,11 +277,11 @@ public final class PipeForge {
         }
 
         boolean commitsRegister() {
-            return kind >= NUMBER && kind <= LOAD;
+            return target != NOWHERE;
         }
 
         boolean commitsTo(int register) {
-            return commitsRegister() && d == register;
+            return target == register;
         }
 
         boolean commitsAnything() {
@@ -300,7 +301,7 @@ public final class PipeForge {
             if (kind == STORE) {
                 return placeFrom(leftValue);
             }
-            return kind == OUT ? 0 : d;
+            return kind == OUT ? 0 : target;
         }
 
         /** The remainder is never below 0, also for a negative sum. */
