@@ -18,6 +18,7 @@ public final class FaithfulComparisonTest {
         eachPart();
         order();
         oneTooMany();
+        behindTheStop();
         lastOfThousand();
         c.end();
     }
@@ -85,6 +86,23 @@ public final class FaithfulComparisonTest {
         y.run(3000);
         kept.setInt(held(y, "log"), 1);
         c.due("faithful(), one of none", y.faithful(), false);
+    }
+
+    /** What stands behind a stop is none of the program's, even if a commit looks like it. */
+    private void behindTheStop() throws ReflectiveOperationException {
+        PipeForge x = new PipeForge();
+        x.code(1, 1, 0, 0, 6);
+        x.code(0, 0, 0, 0, 0);
+        x.code(1, 1, 0, 0, 6);
+        x.run(3000);
+        c.due("commits()", x.commits(), 1);
+        c.due("faithful()", x.faithful(), true);
+        Object log = held(x, "log");
+        Field kept = log.getClass().getDeclaredField("kept");
+        kept.setAccessible(true);
+        System.arraycopy(parts(x), 0, parts(x), PARTS, PARTS);
+        kept.setInt(log, 2);
+        c.due("faithful(), one from behind the stop", x.faithful(), false);
     }
 
     private void lastOfThousand() throws ReflectiveOperationException {
